@@ -46,6 +46,8 @@ public final class Nestprint {
     private static final int MOST_STEPS = 2500;
     /** 60 texts of 60 signs, blanks, and what nests can push them to the right. */
     private static final int MOST_COLUMNS = 6000;
+    /** 60 leaves can make 61 lines; in 22 others, at most, one can be at once, with two numbers held of each. */
+    private static final int MOST_LINES = 100;
     /** 12 leaves, each in at most 19 groups. */
     private static final int MOST_WISHES = 300;
     private static final int MOST_TRIES = 1000000;
@@ -854,16 +856,31 @@ public final class Nestprint {
             script.finish();
         }
 
+        /** Unrolls it inside of a NEST or GROUP, and if innerBy is not NONE, inside of one more. */
+        void unrollIn(Script script, int node, int kind, int by, int innerBy) {
+            script.start(signs);
+            script.open(kind, by);
+            if (innerBy != NONE) {
+                script.open(kind, innerBy);
+            }
+            unroll(script, numbers.get(node), 1);
+            if (innerBy != NONE) {
+                script.shut();
+            }
+            script.shut();
+            script.finish();
+        }
+
         /** Recursive: no place is deeper than 20. */
-        void unroll(Script script, int place, int level) {
+        private void unroll(Script script, int place, int level) {
             int kind = kinds.get(place);
             if (level > MOST_DEPTH) {
                 return;
             }
             if (kind == TEXT) {
-                script.addText(starts.get(place), counts.get(place));
+                script.addStep(TEXT, starts.get(place), counts.get(place));
             } else if (kind <= SOFT) {
-                script.addMark(kind);
+                script.addStep(kind, 0, 0);
             } else {
                 unrollParts(script, place, level);
             }
@@ -891,7 +908,7 @@ public final class Nestprint {
         private final Row lengths = new Row(MOST_STEPS);
         /** The END of what begins at a step; of a leaf the next step. */
         private final Row ends = new Row(MOST_STEPS);
-        private final Row opened = new Row(MOST_STEPS);
+        private final Row opened = new Row(MOST_LINES);
         /** Of all steps ahead of one: the length of FLAT, the HARDS, the MARKS. */
         private final Row flats = new Row(MOST_STEPS + 1);
         private final Row hards = new Row(MOST_STEPS + 1);
@@ -913,31 +930,22 @@ public final class Nestprint {
             opened.clear();
         }
 
-        void addText(int start, int length) {
-            kinds.add(TEXT);
+        /** Adds a leaf (only a TEXT has a start and a length), or the END of another one. */
+        void addStep(int kind, int start, int length) {
+            kinds.add(kind);
             starts.add(start);
             lengths.add(length);
             ends.add(kinds.size());
         }
 
-        void addMark(int kind) {
-            kinds.add(kind);
-            starts.add(0);
-            lengths.add(0);
-            ends.add(kinds.size());
-        }
-
         void open(int kind, int by) {
             opened.add(kinds.size());
-            kinds.add(kind);
-            starts.add(by);
-            lengths.add(0);
-            ends.add(kinds.size());
+            addStep(kind, by, 0);
         }
 
         void shut() {
             ends.set(opened.take(), kinds.size());
-            addMark(END);
+            addStep(END, 0, 0);
         }
 
         void finish() {
@@ -1102,7 +1110,7 @@ public final class Nestprint {
             asked = 0;
         }
 
-        boolean next() {
+        boolean isNextFlat() {
             if (asked >= wishes.size()) {
                 wishes.add(1);
             }
@@ -1112,12 +1120,13 @@ public final class Nestprint {
 
         /** Goes on to the next wishes; those that were not asked for any more make no difference. */
         boolean turn() {
-            wishes.cut(asked);
-            while (wishes.size() > 0 && wishes.last() == 0) {
-                wishes.cut(wishes.size() - 1);
+            int length = Math.min(asked, wishes.size());
+            while (length > 0 && wishes.get(length - 1) == 0) {
+                length--;
             }
-            wishes.set(wishes.size() - 1, 0);
-            return wishes.size() > 0;
+            wishes.cut(length);
+            wishes.set(length - 1, 0);
+            return length > 0;
         }
 
         void keep() {
@@ -1138,11 +1147,11 @@ public final class Nestprint {
         private final Row columns = new Row(MOST_STEPS);
         private final Row ones = new Row(MOST_STEPS);
         /** Of each line: its first step, the blanks with which it begins, its length. */
-        private final Row firsts = new Row(MOST_STEPS);
-        private final Row indents = new Row(MOST_STEPS);
-        private final Row lengths = new Row(MOST_STEPS);
+        private final Row firsts = new Row(MOST_LINES);
+        private final Row indents = new Row(MOST_LINES);
+        private final Row lengths = new Row(MOST_LINES);
         /** INDENT and marksAround of what is begun, but not yet ended. */
-        private final Row held = new Row(MOST_STEPS);
+        private final Row held = new Row(MOST_LINES);
         private final Row ink = new Row(MOST_COLUMNS);
         private int width = 1;
         private int ribbon = 1;
@@ -1255,30 +1264,19 @@ public final class Nestprint {
             if (step < flatEnd) {
                 return true;
             }
-            if (script.isOpen(step)) {
+            if (way == BREAK || script.isOpen(step)) {
                 return false;
             }
-            switch (way) {
-                case FIT:
-                    return column + script.needOf(step) <= right;
-                case TRY:
-                    return kind == GROUP ? script.isTriedFlat(step, column, right) : column + script.needOf(step) <= right;
-                case WISH:
-                    return isWished(script.marksIn(step));
-                default:
-                    return false;
+            if (way == WISH) {
+                // Without MARKS flat and broken are the same, and flat comes first. If all MARKS of the broken GROUP
+                // around are in this one, flat would be the same as that GROUP flat, which comes first.
+                int marks = script.marksIn(step);
+                return marks == 0 || marks != marksAround && wishes.isNextFlat();
             }
-        }
-
-        /**
-         * Two choices need no wish: without MARKS flat and broken are the same, and flat comes first; and if all MARKS
-         * of the broken GROUP around are in this one, then flat would be the same as that GROUP flat, which comes first.
-         */
-        private boolean isWished(int marks) {
-            if (marks == 0) {
-                return true;
+            if (way == TRY && kind == GROUP) {
+                return script.isTriedFlat(step, column, right);
             }
-            return marks != marksAround && wishes.next();
+            return column + script.needOf(step) <= right;
         }
 
         /** Tries the wishes in the order that the document prefers, so the first of the least cost is the LEAST LAYOUT. */
@@ -1333,21 +1331,17 @@ public final class Nestprint {
             // The last step of a line that is not the last one is the MARK that ends it.
             int end = line + 1 < firsts.size() ? firsts.get(line + 1) - 1 : script.size();
             for (int step = firsts.get(line); step < end; step++) {
-                spellStep(step);
+                int kind = script.kindOf(step);
+                if (kind == LINE || kind == SOFT) {
+                    ink.add(' ');
+                }
+                for (int nth = 0; nth < script.lengthOf(step); nth++) {
+                    ink.add(script.signOf(step, nth));
+                }
             }
         }
 
-        private void spellStep(int step) {
-            int kind = script.kindOf(step);
-            if (kind == LINE || kind == SOFT) {
-                ink.add(' ');
-            }
-            for (int nth = 0; nth < script.lengthOf(step); nth++) {
-                ink.add(script.signOf(step, nth));
-            }
-        }
-
-        /** Adds the signs of all lines to a row, but no blanks. */
+        /** Puts the signs of all lines into a row, but no blanks. */
         void gather(Row all) {
             all.clear();
             for (int line = 0; line < indents.size(); line++) {
@@ -1485,27 +1479,20 @@ public final class Nestprint {
         int build(Row signs, Nodes nodes) {
             itemStarts.clear();
             items.clear();
-            int place = 0;
-            while (place < signs.size()) {
-                int sign = signs.get(place);
-                if (isLetter(sign)) {
-                    place = addText(signs, place, nodes);
-                } else {
-                    addOther(sign, nodes);
-                    place++;
+            int letters = 0;
+            for (int place = 0; place < signs.size(); place++) {
+                if (!isLetter(signs.get(place))) {
+                    addOther(signs.get(place), nodes);
+                    continue;
+                }
+                nodes.addSign(signs.get(place));
+                letters++;
+                if (!isLetter(signs.get(place + 1))) {
+                    items.add(nodes.addText(letters));
+                    letters = 0;
                 }
             }
             return gathered(0, nodes);
-        }
-
-        private int addText(Row signs, int from, Nodes nodes) {
-            int to = from;
-            while (to < signs.size() && isLetter(signs.get(to))) {
-                nodes.addSign(signs.get(to));
-                to++;
-            }
-            items.add(nodes.addText(to - from));
-            return to;
         }
 
         private void addOther(int sign, Nodes nodes) {
@@ -1572,21 +1559,18 @@ public final class Nestprint {
             root = place;
         }
 
-        void addPart(int place) {
-            parts.add(place);
-        }
-
-        /** A place over the parts that were added last. */
-        int addPlace(int kind, int start, int length, int count) {
-            int depth = 0;
-            for (int nth = parts.size() - count; nth < parts.size(); nth++) {
-                depth = Math.max(depth, depths.get(parts.get(nth)));
-            }
+        /** A place over the items from one on. */
+        int addPlace(int kind, int start, int length, Row items, int first) {
             kinds.add(kind);
             starts.add(start);
             lengths.add(length);
-            firsts.add(parts.size() - count);
-            counts.add(count);
+            firsts.add(parts.size());
+            counts.add(items.size() - first);
+            int depth = 0;
+            for (int nth = first; nth < items.size(); nth++) {
+                depth = Math.max(depth, depths.get(items.get(nth)));
+                parts.add(items.get(nth));
+            }
             depths.add(depth + 1);
             return kinds.size() - 1;
         }
@@ -1629,7 +1613,7 @@ public final class Nestprint {
                 int start = inPlain.size();
                 writeHead(place);
                 writeTail(place);
-                script.addText(start, inPlain.size() - start);
+                script.addStep(TEXT, start, inPlain.size() - start);
             } else {
                 unrollArguments(script, place, level);
             }
@@ -1639,19 +1623,19 @@ public final class Nestprint {
             int start = inPlain.size();
             writeHead(place);
             script.open(GROUP, 0);
-            script.addText(start, inPlain.size() - start);
+            script.addStep(TEXT, start, inPlain.size() - start);
             script.open(NEST, TYPED_BY);
-            script.addMark(CUT);
+            script.addStep(CUT, 0, 0);
             for (int nth = 0; nth < counts.get(place); nth++) {
                 if (nth > 0) {
                     addSign(script, ',');
-                    script.addMark(LINE);
+                    script.addStep(LINE, 0, 0);
                 }
                 unrollPlace(script, parts.get(firsts.get(place) + nth), level + 1);
             }
             script.shut();
-            script.addMark(CUT);
-            script.addText(inPlain.size(), 1);
+            script.addStep(CUT, 0, 0);
+            script.addStep(TEXT, inPlain.size(), 1);
             writeTail(place);
             script.shut();
         }
@@ -1664,7 +1648,7 @@ public final class Nestprint {
             }
             for (int nth = 0; nth < counts.get(place); nth++) {
                 if (nth > 0 && isSum) {
-                    script.addMark(LINE);
+                    script.addStep(LINE, 0, 0);
                 }
                 if (nth > 0) {
                     addSign(script, isSum ? '+' : '*');
@@ -1691,7 +1675,7 @@ public final class Nestprint {
         }
 
         private void addSign(Script script, int sign) {
-            script.addText(inPlain.size(), 1);
+            script.addStep(TEXT, inPlain.size(), 1);
             inPlain.add(sign);
         }
 
@@ -1813,7 +1797,7 @@ public final class Nestprint {
         }
 
         private void endName(int place, Tree tree) {
-            items.add(tree.addPlace(NAME, nameStart, place - nameStart, 0));
+            items.add(tree.addPlace(NAME, nameStart, place - nameStart, items, items.size()));
             state = CLOSED;
         }
 
@@ -1868,26 +1852,18 @@ public final class Nestprint {
             productStart = productStarts.take();
             state = CLOSED;
             if (owner != BRACKET) {
-                moveItems(first, tree);
-                int count = items.size() - first;
+                int place = tree.addPlace(owner, start, length, items, first);
                 items.cut(first);
-                items.add(tree.addPlace(owner, start, length, count));
-            }
-        }
-
-        private void moveItems(int first, Tree tree) {
-            for (int nth = first; nth < items.size(); nth++) {
-                tree.addPart(items.get(nth));
+                items.add(place);
             }
         }
 
         /** Makes one place of the items from one on, if they are two or more. */
         private void gather(int kind, int first, Tree tree) {
-            int count = items.size() - first;
-            if (count > 1) {
-                moveItems(first, tree);
+            if (items.size() - first > 1) {
+                int place = tree.addPlace(kind, 0, 0, items, first);
                 items.cut(first);
-                items.add(tree.addPlace(kind, 0, 0, count));
+                items.add(place);
             }
         }
     }
@@ -1930,30 +1906,14 @@ public final class Nestprint {
         }
 
         private boolean isWrappingSound(int node, int width, int ribbon) {
-            wrap(bench, node, GROUP, 0, true);
-            wrap(other, node, GROUP, 0, false);
+            nodes.unrollIn(bench.script(), node, GROUP, 0, 0);
+            nodes.unrollIn(other.script(), node, GROUP, 0, NONE);
             if (isDifferent(width, ribbon)) {
                 return false;
             }
-            wrap(bench, node, NEST, 1, true);
-            wrap(other, node, NEST, 3, false);
+            nodes.unrollIn(bench.script(), node, NEST, 1, 2);
+            nodes.unrollIn(other.script(), node, NEST, 3, NONE);
             return !isDifferent(width, ribbon);
-        }
-
-        /** Puts one node round another, or two: of NESTS the inner one is by 2. */
-        private void wrap(Layout layout, int node, int kind, int by, boolean isTwice) {
-            Script script = layout.script();
-            script.start(nodes.signs());
-            script.open(kind, by);
-            if (isTwice) {
-                script.open(kind, kind == NEST ? 2 : 0);
-            }
-            nodes.unroll(script, nodes.placeOf(node), 1);
-            if (isTwice) {
-                script.shut();
-            }
-            script.shut();
-            script.finish();
         }
 
         private boolean isDifferent(int width, int ribbon) {
