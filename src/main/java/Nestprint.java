@@ -15,12 +15,14 @@ public final class Nestprint {
     /** Where a NEST, an ALIGN or a GROUP ends; only a script has it. */
     private static final int END = 9;
 
+    /** The ways in which it is chosen what is flat: by fitting, by trying it, nothing, as wished for the LEAST, all. */
     private static final int FIT = 0;
     private static final int TRY = 1;
     private static final int BREAK = 2;
     private static final int WISH = 3;
     private static final int FLAT = 4;
 
+    /** What a TREE is of. */
     private static final int NAME = 0;
     private static final int CALL = 1;
     private static final int LIST = 2;

@@ -19,6 +19,7 @@ public final class AskedTest {
         places();
         ones();
         differences();
+        oneBehindTheOther();
         wrongArguments();
         Checks.end();
     }
@@ -285,6 +286,35 @@ public final class AskedTest {
         Checks.refused("WEIGHT 13 and no such node", x, INDEX, () -> x.differ(heavy, 99, true));
         Checks.refused("no such node", x, INDEX, () -> x.differ(-1, one, false));
         Checks.refused("no such other node", x, INDEX, () -> x.differ(one, 99, false));
+    }
+
+    /** What one call has laid out is nothing to the next one. */
+    private static void oneBehindTheOther() {
+        Nestprint x = new Nestprint();
+        int short1 = Checks.read(x, "a");
+        int long1 = Checks.read(x, "bb<_cc[d~e]>");
+        Checks.code(x, "[a,b]");
+        for (int round = 0; round < 2; round++) {
+            Checks.due("codeLine(0)", x.codeLine(0), "[a, b]");
+            Checks.due("at() of the long one", x.at(long1, 1, 2), 3);
+            Checks.due("line() of the short one", x.line(short1, 0), "a");
+            Checks.due("where() of the long one", x.where(long1, 1, true), 2);
+            Checks.due("measure() of the short one", x.measure(short1, 1), 1);
+            Checks.due("where() of the long one, its line", x.where(long1, 2, false), 1);
+            Checks.due("at() of the short one", x.at(short1, 0, 0), 1);
+            Checks.due("leastLine() of the long one", x.leastLine(long1, 1), "  ccd e");
+            Checks.due("least() of the short one", x.least(short1, 3), 1);
+            Checks.due("flat() of the long one", x.flat(long1), "bb ccd e");
+            Checks.due("isOne() of the long one", x.isOne(long1, 1), 1);
+            Checks.due("leastLine() of the short one", x.leastLine(short1, 0), "a");
+            Checks.due("fits() of the long one", x.fits(long1, 13), false);
+            Checks.due("narrowest() of the short one", x.narrowest(short1), 1);
+            Checks.due("would() of the long one", x.would(long1, 6, 0), 3);
+            Checks.due("ofCode(9)", x.ofCode(9), 1);
+            Checks.due("ofNode() of the short one", x.ofNode(short1, 4), 1);
+            Checks.due("ofNode() of the long one", x.ofNode(long1, 5), 4);
+            Checks.due("differ() of both", x.differ(short1, long1, true), 0);
+        }
     }
 
     private static void wrongArguments() {

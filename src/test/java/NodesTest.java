@@ -16,6 +16,12 @@ public final class NodesTest {
         fillsOfTooMuch();
         whatIsFull();
         forgotten();
+        forgottenOften();
+        readOften("_".repeat(60), " ".repeat(60));
+        readOften("abcdef".repeat(10), "abcdef".repeat(10));
+        readOften("[a]".repeat(20), "a".repeat(20));
+        bigOnes();
+        deepOnes();
         shared();
         Checks.end();
     }
@@ -192,6 +198,11 @@ public final class NodesTest {
         Checks.due("its WEIGHT", even.ofNode(30, 1), 58);
         Checks.due("a fill of WEIGHT 60", even.fill(0, 29), 31);
         Checks.due("its WEIGHT", even.ofNode(31, 1), 60);
+        Nestprint late = Checks.withWords(31);
+        late.join(0, 0);
+        Checks.due("a fill of WEIGHT 60, not from 0 on", late.fill(2, 31), 32);
+        Checks.due("its WEIGHT", late.ofNode(32, 1), 60);
+        Checks.refused("a fill of WEIGHT 62, not from 0 on", late, STATE, () -> late.fill(1, 31));
         Nestprint deep = deepOne(20);
         Checks.refused("a fill of DEPTH 21", deep, STATE, () -> deep.fill(18, 19));
         Checks.refused("a fill of one, of DEPTH 21", deep, STATE, () -> deep.fill(19, 19));
@@ -237,9 +248,83 @@ public final class NodesTest {
         Checks.due("the next one", x.word(9, 2), 0);
         Checks.due("its FLAT", x.flat(0), "jj");
         Checks.due("NODES ever then", x.house(6), 4);
+        Checks.read(x, "[ab_<c>]");
+        x.join(1, 0);
+        Checks.due("forget() of three more", x.forget(), 3);
+        Checks.due("a nest behind that", x.nest(x.join(x.word(3, 2), x.mark(1)), 7), 3);
+        Checks.due("its FLAT", x.flat(3), "dd ");
+        Checks.due("its lines", Checks.lines(x, 3), "dd|" + " ".repeat(7));
+        Checks.due("its DEPTH", x.ofNode(3, 2), 3);
+        Checks.due("WEIGHTS then", x.house(7), 6);
         Nestprint full = Checks.withWords(80);
         Checks.due("forget() of 80", full.forget(), 80);
         Checks.due("a word behind that", full.word(1, 1), 0);
+    }
+
+    private static void forgottenOften() {
+        Nestprint x = new Nestprint();
+        Checks.type(x, "abcdef".repeat(8) + "a,b,c,d,e,f,");
+        for (int round = 0; round < 2; round++) {
+            for (int node = 0; node < 80; node++) {
+                Checks.due("read() in round " + round, x.read(), node);
+            }
+            Checks.due("the last one in round " + round, x.flat(79), "abcdef".repeat(9));
+            Checks.due("forget() in round " + round, x.forget(), 80);
+        }
+    }
+
+    private static void readOften(String typed, String flat) {
+        Nestprint x = new Nestprint();
+        Checks.type(x, typed);
+        for (int node = 0; node < 80; node++) {
+            x.read();
+        }
+        Checks.due("all 80 of " + typed, x.house(0), 80);
+        Checks.due("FLAT of the first one", x.flat(0), flat);
+        Checks.due("FLAT of the last one", x.flat(79), flat);
+    }
+
+    /** 60 leaves, each in 13 groups: the most steps that are easily made. */
+    private static void bigOnes() {
+        Nestprint x = new Nestprint();
+        int leaf = x.mark(2);
+        for (int depth = 2; depth <= 14; depth++) {
+            leaf = depth % 3 == 0 ? x.nest(leaf, 1) : x.group(leaf);
+        }
+        int two = x.join(leaf, leaf);
+        int four = x.join(two, two);
+        int eight = x.join(four, four);
+        int sixteen = x.join(eight, eight);
+        int all = x.join(x.join(sixteen, sixteen), x.join(sixteen, x.join(eight, four)));
+        Checks.due("WEIGHT of a big one", x.ofNode(all, 1), 60);
+        Checks.due("DEPTH of a big one", x.ofNode(all, 2), 20);
+        Checks.due("GROUPS of a big one", x.ofNode(all, 6), 60 * 9);
+        Checks.due("flat ones of a big one", x.measure(all, 7), 60 * 9);
+        Checks.due("isOne() of the last one", x.isOne(all, 60 * 9 - 1), 1);
+        Checks.due("isOne() behind it", x.isOne(all, 60 * 9), -1);
+        Checks.due("isSound() with a big one", x.isSound(), true);
+        int lines = x.mark(1);
+        for (int node = 0; node < 5; node++) {
+            lines = x.join(lines, lines);
+        }
+        Checks.due("lines of 60 LINES", x.measure(x.join(lines, x.join(lines - 1, x.join(lines - 2, lines - 3))), 0), 61);
+    }
+
+    /** Many nodes in one another: all of them count. */
+    private static void deepOnes() {
+        Nestprint x = new Nestprint();
+        int node = x.join(x.mark(1), x.word(0, 1));
+        for (int depth = 3; depth <= 20; depth++) {
+            node = depth % 2 == 0 ? x.group(node) : x.nest(node, 1);
+        }
+        Checks.due("DEPTH 20", x.ofNode(node, 2), 20);
+        Checks.due("FLAT of DEPTH 20", x.flat(node), " a");
+        Checks.due("GROUPS of DEPTH 20", x.ofNode(node, 6), 9);
+        x.width(1);
+        Checks.due("lines of DEPTH 20", Checks.lines(x, node), "|" + " ".repeat(9) + "a");
+        Checks.due("LEAST of DEPTH 20", x.least(node, 0), 100);
+        Checks.due("isSound() with DEPTH 20", x.isSound(), true);
+        Checks.due("WEIGHTS with DEPTH 20", x.house(7), 1 + 1 + 2 * 19);
     }
 
     private static void shared() {

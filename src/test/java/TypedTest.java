@@ -10,6 +10,8 @@ public final class TypedTest {
         facts();
         plains();
         layouts();
+        oneBehindTheOther();
+        deepOnes();
         Checks.end();
     }
 
@@ -212,5 +214,43 @@ public final class TypedTest {
         x.word(0, 1);
         x.forget();
         Checks.due("code when nodes are forgotten", x.codeLine(0), "a(b, c +d)");
+    }
+
+    private static void typedAgain(Nestprint x, String typed, boolean isCode, int due) {
+        Checks.type(x, typed);
+        Checks.due("fault(" + isCode + ") of " + typed, x.fault(isCode), due);
+    }
+
+    /** What one call has read is nothing to the next one. */
+    private static void oneBehindTheOther() {
+        Nestprint x = new Nestprint();
+        for (int round = 0; round < 2; round++) {
+            typedAgain(x, "a([(", true, 4);
+            typedAgain(x, "a)", true, 1);
+            typedAgain(x, "[[{<", false, 4);
+            typedAgain(x, "a]", false, 1);
+            Checks.due("code() of a deep one", Checks.code(x, "a(b*(c+d(e)))"), 5);
+            Checks.due("its depth", x.ofCode(6), 5);
+            typedAgain(x, "a+b*c(d,e+[f", true, 12);
+            Checks.due("code() of a flat one", Checks.code(x, "a*b"), 2);
+            Checks.due("its depth", x.ofCode(6), 2);
+            Checks.due("its plain()", x.plain(), "a*b");
+            Checks.due("its SUMS", x.ofCode(4), 0);
+            Checks.due("code() of a name", Checks.code(x, "f"), 1);
+            Checks.due("its depth", x.ofCode(6), 1);
+        }
+    }
+
+    private static void deepOnes() {
+        String call = "a*b([c+d*(e+f*[b+c*d])])+e";
+        plain(call, call);
+        String deep = "a+b*[a+b*[a+b*[a+b*[a+b*c]]]]";
+        Nestprint x = new Nestprint();
+        Checks.due("code() of a deep one", Checks.code(x, deep), 11);
+        Checks.due("its depth", x.ofCode(6), 15);
+        Checks.due("its plain()", x.plain(), deep);
+        x.width(60);
+        Checks.due("its line", x.codeLine(0), "a +b*[a +b*[a +b*[a +b*[a +b*c]]]]");
+        Checks.due("isSound() with it", x.isSound(), true);
     }
 }

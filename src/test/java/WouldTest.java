@@ -236,8 +236,10 @@ public final class WouldTest {
             Checks.read(x, text);
             Checks.due("digest() with " + text, x.digest(), digestOf(x));
         }
-        Checks.code(x, "a(b,c)+d*[e]");
         x.width(6);
+        Checks.due("WEIGHT of 12", x.ofNode(Checks.read(x, "a[b_c]{dd_eeee}[a_b]c~"), 1), 12);
+        Checks.due("digest() with a WEIGHT of 12", x.digest(), digestOf(x));
+        Checks.code(x, "a(b,c)+d*[e]");
         x.blank();
         x.knock();
         Checks.due("digest() with code", x.digest(), digestOf(x));
