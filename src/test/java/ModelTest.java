@@ -75,12 +75,15 @@ public final class ModelTest {
     private static int node(Model m) {
         int count = m.nodes.size();
         if (count == 0 || below(25) == 0) {
-            return from(-2, count + 1);
+            return wild(-2, count + 1);
         }
         return below(3) == 0 ? below(count) : Math.max(0, count - 1 - below(4));
     }
 
     private static int wild(int least, int most) {
+        if (below(60) == 0) {
+            return below(2) == 0 ? Integer.MIN_VALUE : Integer.MAX_VALUE;
+        }
         return below(15) == 0 ? from(least - 3, most + 3) : from(least, most);
     }
 
@@ -143,7 +146,7 @@ public final class ModelTest {
             }
         }
         if (below(60) == 0) {
-            c[below(6)] = from(-4, 24);
+            c[below(6)] = wild(-4, 24);
         }
         due(run, nth, "say(" + java.util.Arrays.toString(c) + ")", () -> x.say(c[0], c[1], c[2], c[3], c[4], c[5]), () -> m.say(c));
         due(run, nth, "typed()", () -> x.typed(), () -> m.typed());
@@ -159,7 +162,7 @@ public final class ModelTest {
 
     private static void ask(int run, int nth, Nestprint x, Model m) {
         int a = node(m), b = node(m), what = wild(0, 9), few = wild(0, 6), room = wild(1, 60), narrow = wild(1, 14);
-        int line = from(-1, 5), column = from(-1, 20);
+        int line = wild(0, 4), column = wild(0, 19);
         boolean is = below(2) == 0;
         String one = "(" + a + ", ";
         switch (below(22)) {
