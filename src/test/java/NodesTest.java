@@ -14,7 +14,6 @@ public final class NodesTest {
         alignsAndGroups();
         fills();
         fillsOfTooMuch();
-        whatIsFull();
         forgotten();
         forgottenOften();
         readOften("_".repeat(60), " ".repeat(60));
@@ -101,21 +100,11 @@ public final class NodesTest {
         Checks.refused("a WEIGHT of 61", x, STATE, () -> x.join(weight60, 0));
         Checks.refused("a WEIGHT of 64", x, STATE, () -> x.join(5, 5));
         Checks.refused("too much WEIGHT, no such node", x, INDEX, () -> x.join(weight60, 99));
-        Nestprint deep = deepOne(19);
+        Nestprint deep = Checks.deep(19);
         Checks.due("a join of DEPTH 20", deep.join(0, 18), 19);
         Checks.due("DEPTH of 20", deep.ofNode(19, 2), 20);
         Checks.refused("a join of DEPTH 21", deep, STATE, () -> deep.join(19, 0));
         Checks.refused("a join of DEPTH 21, the other way", deep, STATE, () -> deep.join(0, 19));
-    }
-
-    /** A word, and nests over it: the last one has this depth. */
-    private static Nestprint deepOne(int depth) {
-        Nestprint x = new Nestprint();
-        x.word(0, 1);
-        for (int node = 0; node < depth - 1; node++) {
-            x.nest(node, 0);
-        }
-        return x;
     }
 
     private static void nests() {
@@ -133,7 +122,7 @@ public final class NodesTest {
         Checks.refused("nest(3, 1)", x, INDEX, () -> x.nest(3, 1));
         Checks.refused("nest(3, 9)", x, INDEX, () -> x.nest(3, 9));
         Checks.refused("nest(-1, 9)", x, INDEX, () -> x.nest(-1, 9));
-        Nestprint deep = deepOne(20);
+        Nestprint deep = Checks.deep(20);
         Checks.due("DEPTH 20", deep.ofNode(19, 2), 20);
         Checks.refused("a nest of DEPTH 21", deep, STATE, () -> deep.nest(19, 1));
         Checks.refused("a nest of DEPTH 21 by 9", deep, ARGUMENT, () -> deep.nest(19, 9));
@@ -153,7 +142,7 @@ public final class NodesTest {
         Checks.refused("align(-1)", x, INDEX, () -> x.align(-1));
         Checks.refused("group(4)", x, INDEX, () -> x.group(4));
         Checks.refused("group(-1)", x, INDEX, () -> x.group(-1));
-        Nestprint deep = deepOne(20);
+        Nestprint deep = Checks.deep(20);
         Checks.refused("an align of DEPTH 21", deep, STATE, () -> deep.align(19));
         Checks.refused("a group of DEPTH 21", deep, STATE, () -> deep.group(19));
         Checks.due("an align of DEPTH 20", deep.align(18), 20);
@@ -203,34 +192,11 @@ public final class NodesTest {
         Checks.due("a fill of WEIGHT 60, not from 0 on", late.fill(2, 31), 32);
         Checks.due("its WEIGHT", late.ofNode(32, 1), 60);
         Checks.refused("a fill of WEIGHT 62, not from 0 on", late, STATE, () -> late.fill(1, 31));
-        Nestprint deep = deepOne(20);
+        Nestprint deep = Checks.deep(20);
         Checks.refused("a fill of DEPTH 21", deep, STATE, () -> deep.fill(18, 19));
         Checks.refused("a fill of one, of DEPTH 21", deep, STATE, () -> deep.fill(19, 19));
         Checks.due("a fill of DEPTH 20", deep.fill(17, 18), 20);
         Checks.due("its DEPTH", deep.ofNode(20, 2), 20);
-    }
-
-    private static void whatIsFull() {
-        Nestprint x = Checks.withWords(79);
-        Checks.due("node 79", x.join(0, 1), 79);
-        Checks.refused("80 nodes: word(0, 1)", x, STATE, () -> x.word(0, 1));
-        Checks.refused("80 nodes: word(26, 1)", x, ARGUMENT, () -> x.word(26, 1));
-        Checks.refused("80 nodes: word(0, 10)", x, ARGUMENT, () -> x.word(0, 10));
-        Checks.refused("80 nodes: mark(1)", x, STATE, () -> x.mark(1));
-        Checks.refused("80 nodes: mark(0)", x, ARGUMENT, () -> x.mark(0));
-        Checks.refused("80 nodes: join(0, 1)", x, STATE, () -> x.join(0, 1));
-        Checks.refused("80 nodes: join(80, 1)", x, INDEX, () -> x.join(80, 1));
-        Checks.refused("80 nodes: nest(0, 1)", x, STATE, () -> x.nest(0, 1));
-        Checks.refused("80 nodes: nest(0, 9)", x, ARGUMENT, () -> x.nest(0, 9));
-        Checks.refused("80 nodes: nest(80, 1)", x, INDEX, () -> x.nest(80, 1));
-        Checks.refused("80 nodes: align(0)", x, STATE, () -> x.align(0));
-        Checks.refused("80 nodes: align(80)", x, INDEX, () -> x.align(80));
-        Checks.refused("80 nodes: group(0)", x, STATE, () -> x.group(0));
-        Checks.refused("80 nodes: group(80)", x, INDEX, () -> x.group(80));
-        Checks.refused("80 nodes: fill(0, 1)", x, STATE, () -> x.fill(0, 1));
-        Checks.refused("80 nodes: fill(1, 0)", x, ARGUMENT, () -> x.fill(1, 0));
-        Checks.refused("80 nodes: fill(0, 80)", x, INDEX, () -> x.fill(0, 80));
-        Checks.refused("80 nodes: read()", x, STATE, () -> x.read());
     }
 
     private static void forgotten() {

@@ -62,23 +62,15 @@ public final class RoomTest {
         }
     }
 
-    private static Nestprint withSigns(int count) {
-        Nestprint x = new Nestprint();
-        for (int sign = 0; sign < count; sign++) {
-            x.say(sign % 6, -1, -1, -1, -1, -1);
-        }
-        return x;
-    }
-
     private static void saysOfTooMuch() {
-        Nestprint x = withSigns(60);
+        Nestprint x = Checks.withSigns(60);
         Checks.due("60 signs", x.house(3), 60);
         Checks.refused("a 61st", x, STATE, () -> x.say(0, -1, -1, -1, -1, -1));
         Checks.refused("a 61st, and off again", x, STATE, () -> x.say(0, 20, -1, -1, -1, -1));
         Checks.refused("a 61st, and all off", x, STATE, () -> x.say(-1, 0, 21, -1, -1, -1));
         Checks.refused("a 61st, and a wrong code", x, ARGUMENT, () -> x.say(0, -1, -1, -1, -1, 22));
         Checks.due("one off and one more", x.say(20, 0, -1, -1, -1, -1), 60);
-        Nestprint y = withSigns(57);
+        Nestprint y = Checks.withSigns(57);
         Checks.refused("six more than 57", y, STATE, () -> y.say(0, 0, 0, 0, 0, 0));
         Checks.refused("61 signs, one off again", y, STATE, () -> y.say(0, 0, 0, 0, 20, -1));
         Checks.due("three more", y.say(0, 0, 0, -1, -1, -1), 60);

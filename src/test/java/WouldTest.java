@@ -1,4 +1,4 @@
-/** Promises 30 to 37: the house, what would be, the least, isSound and digest. */
+/** Promises 30 to 36: the house, what would be, the least, and isSound. */
 public final class WouldTest {
     private static final Class<?> ARGUMENT = IllegalArgumentException.class;
     private static final Class<?> STATE = IllegalStateException.class;
@@ -13,8 +13,6 @@ public final class WouldTest {
         ties();
         leastsRefused();
         soundness();
-        digestOfNothing();
-        digests();
         wideOnes();
         Checks.end();
     }
@@ -180,73 +178,6 @@ public final class WouldTest {
         Checks.due("plain() behind that", x.plain(), "a(b+c*(d+e),[a,b,c()],f)*(a+b)");
         x.forget();
         Checks.due("isSound() without nodes", x.isSound(), true);
-    }
-
-    private static void digestOfNothing() {
-        long sum = 8287;
-        int[] house = {0, 20, 60, 0, 0, 0, 0, 0};
-        for (int value : house) {
-            sum = sum * 31 + value;
-        }
-        // The length of TYPED, no FAULT as a DOCUMENT, one at 0 as CODE, ofCode() 10 times 0, no lines, sound.
-        int[] rest = {0, -1, 0, 0, 0, 0, 0, 0, 0, 0, 0, 0, 0, 1};
-        for (int value : rest) {
-            sum = sum * 31 + value;
-        }
-        Checks.due("digest() at first", new Nestprint().digest(), sum);
-    }
-
-    /** The digest, put together from the other answers. */
-    private static long digestOf(Nestprint x) {
-        long sum = 8287;
-        for (int what = 0; what <= 7; what++) {
-            sum = sum * 31 + x.house(what);
-        }
-        int last = x.house(0) - 1;
-        for (int node = last; node >= 0 && node >= last - 3; node--) {
-            for (int what = 0; what <= 7; what++) {
-                sum = sum * 31 + x.ofNode(node, what);
-            }
-            for (int what = 0; what <= 8; what++) {
-                sum = sum * 31 + x.measure(node, what);
-            }
-            for (int nth = 0; nth < x.measure(node, 0); nth++) {
-                sum = sum * 31 + x.line(node, nth).length();
-            }
-        }
-        for (int what = 0; what <= 3 && last >= 0 && x.ofNode(last, 1) <= 12; what++) {
-            sum = sum * 31 + x.least(last, what);
-        }
-        sum = sum * 31 + x.house(3);
-        sum = sum * 31 + x.fault(false);
-        sum = sum * 31 + x.fault(true);
-        for (int what = 0; what <= 9; what++) {
-            sum = sum * 31 + x.ofCode(what);
-        }
-        for (int nth = 0; nth < x.ofCode(9); nth++) {
-            sum = sum * 31 + x.codeLine(nth).length();
-        }
-        return sum * 31 + (x.isSound() ? 1 : 0);
-    }
-
-    private static void digests() {
-        Nestprint x = new Nestprint();
-        String[] typed = {"a", "[a_b]~c", "a_".repeat(8), "[aaa<_bb{c_d~e}>]f", "<a;b>", "[a~b]{c,d}"};
-        for (String text : typed) {
-            Checks.read(x, text);
-            Checks.due("digest() with " + text, x.digest(), digestOf(x));
-        }
-        x.width(6);
-        Checks.due("WEIGHT of 12", x.ofNode(Checks.read(x, "a[b_c]{dd_eeee}[a_b]c~"), 1), 12);
-        Checks.due("digest() with a WEIGHT of 12", x.digest(), digestOf(x));
-        Checks.code(x, "a(b,c)+d*[e]");
-        x.blank();
-        x.knock();
-        Checks.due("digest() with code", x.digest(), digestOf(x));
-        Checks.due("digest() again", x.digest(), digestOf(x));
-        x.forget();
-        Checks.type(x, "a+");
-        Checks.due("digest() with a FAULT", x.digest(), digestOf(x));
     }
 
     private static void wideOnes() {
