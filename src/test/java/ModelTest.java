@@ -2,12 +2,18 @@ import java.util.function.Supplier;
 
 /** Long runs of calls, the same ones on a Nestprint and on the model: each answer must be the same. */
 public final class ModelTest {
-    private static final int RUNS = 250;
-    private static final int CALLS = 160;
+    private static final int RUNS = 300;
+    private static final int CALLS = 200;
+    /** Each tenth run goes on to the end of what is promised: 512 calls. */
+    private static final int LONG_RUN = 10;
+    private static final int MOST_CALLS = 512;
+    /** What one step of a run and what stands at its end can take, together. */
+    private static final int SPARE_CALLS = 9;
     /** More than this many GROUPS and SOFTS, and the model tries too many layouts. */
     private static final int MOST_CHOICES = 11;
 
     private static int wrong = 0;
+    private static int calls = 0;
     private static long state = 0;
 
     public static void main(String[] args) {
@@ -39,6 +45,7 @@ public final class ModelTest {
     }
 
     private static void due(int run, int nth, String call, Supplier<Object> got, Supplier<Object> want) {
+        calls++;
         String ofPrinter = answer(got);
         String ofModel = answer(want);
         if (!ofPrinter.equals(ofModel)) {
@@ -51,7 +58,9 @@ public final class ModelTest {
         Nestprint x = new Nestprint();
         Model m = new Model();
         int style = below(4);
-        for (int nth = 0; nth < CALLS && wrong < 10; nth++) {
+        int most = run % LONG_RUN == 0 ? MOST_CALLS : CALLS;
+        calls = 0;
+        for (int nth = 0; calls + SPARE_CALLS <= most && wrong < 10; nth++) {
             if (style == 3 && nth % 3 == 0) {
                 type(run, nth, x, m, below(2) == 0);
             } else if (style == 2 || below(2) == 0) {
@@ -60,9 +69,9 @@ public final class ModelTest {
                 ask(run, nth, x, m);
             }
         }
-        due(run, CALLS, "isSound", () -> x.isSound(), () -> m.isSound());
+        due(run, calls, "isSound", () -> x.isSound(), () -> m.isSound());
         if (m.nodes.isEmpty() || isFew(m, m.nodes.size() - 1)) {
-            due(run, CALLS, "digest", () -> x.digest(), () -> m.digest());
+            due(run, calls, "digest", () -> x.digest(), () -> m.digest());
         }
     }
 

@@ -56,6 +56,7 @@ public final class ShortTextsTest {
             Checks.due(text + " least in " + width, x.least(0, 0), least.cost());
             Checks.due(text + " least flat ones in " + width, x.least(0, 2), least.flatOnes());
             Checks.due(text + " least lines in " + width, Checks.leastLines(x, 0), barred(least.lines));
+            Checks.due(text + " isSound() in " + width, x.isSound(), true);
         }
     }
 
@@ -78,6 +79,7 @@ public final class ShortTextsTest {
             x.ribbon(width);
             Model.Layout layout = new Model.Layout(tree.document(), width, width, null);
             Checks.due(text + " as code in " + width, Checks.codeLines(x), barred(layout.lines));
+            Checks.due(text + " as code, isSound() in " + width, x.isSound(), true);
         }
     }
 
