@@ -1,6 +1,6 @@
 import java.util.List;
 
-/** Sections 2 to 4, and promises 13, 14, 26: every short text that is typed, read, laid out, and compared with Model. */
+/** Sections 2 to 4, and promises 13, 14, 26: every short text (of letters "a" alone) is typed, read, laid out, and compared with Model. */
 public final class ShortTextsTest {
     private static final String OF_DOCUMENTS = "a_,;~[]{}<>+";
     private static final String OF_CODE = "a()[]+*,_";
